@@ -7,6 +7,7 @@ public final class AccessTest {
         faultOfAddressComesFirst();
         contextNotValid();
         through();
+        firstPlaceIsAPlace();
         ledByThreeLevels();
         eachLevelMayBeInvalid();
         bigLeaves();
@@ -96,6 +97,17 @@ public final class AccessTest {
         h.context(1, true, 0, 0);
         h.read(1, 16384);
         c.due("a VALID CONTEXT is remembered, the access refused", h.count(3), 1);
+    }
+
+    private static void firstPlaceIsAPlace() {
+        DmaGate g = new DmaGate();
+        g.table(1024);
+        g.context(2, true, 0, 0);
+        c.due("write(2, 0, 7)", g.write(2, 0, 7), true);
+        c.due("peek(0)", g.peek(0), 7);
+        c.due("read(2, 0)", g.read(2, 0), 7);
+        c.due("fault()", g.fault(), 0);
+        c.due("count(1)", g.count(1), 0);
     }
 
     private static void ledByThreeLevels() {

@@ -143,6 +143,7 @@ public final class CommandTest {
         once(g, 2, 4, 5);
         once(g, 2, 16, 5);
         c.due("count(4): none was for these", g.count(4), 3);
+        c.due("the CONTEXTS stay", g.count(3), 3);
         DmaGate h = new DmaGate();
         h.context(0, false, 1, 0);
         h.enter(1, 0, 0, false, 2);
@@ -189,6 +190,7 @@ public final class CommandTest {
         DmaGate g = withLeaves();
         once(g, 4, 1, 1);
         c.due("count(3)", g.count(3), 0);
+        c.due("MEMORY stays", g.peek(1), 0);
         c.due("the LEAVES stay", g.count(4), 6);
         g.read(1, 0x500);
         c.due("count(3)", g.count(3), 1);

@@ -8,6 +8,7 @@ public final class EngineTest {
         tail();
         tailAtWork();
         copies();
+        firstPlaceIsAPlace();
         wordsAreReadWhenTheirTurnComes();
         countIsOfEightBits();
         wholeRingRound();
@@ -135,6 +136,22 @@ public final class EngineTest {
         c.due("peek(400) is as it was", g.peek(400), 100);
         c.due("step(2, 1000)", g.step(2, 1000), 0);
         c.due("fault()", g.fault(), 0);
+    }
+
+    private static void firstPlaceIsAPlace() {
+        DmaGate g = new DmaGate();
+        g.table(1024);
+        g.context(2, true, 0, 0);
+        g.ring(2, 0, 4);
+        descriptor(g, 0, 0, 100, 1, 0);
+        descriptor(g, 4, 101, 0, 1, 0);
+        g.poke(101, 66);
+        g.tail(2, 2);
+        c.due("step(2, 9)", g.step(2, 9), 6);
+        c.dueEngine(g, 2, 0, 2, 2, 2, -1);
+        c.due("peek(0)", g.peek(0), 66);
+        c.due("peek(3)", g.peek(3), 1);
+        c.due("count(1)", g.count(1), 0);
     }
 
     private static void wordsAreReadWhenTheirTurnComes() {
