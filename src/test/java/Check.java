@@ -4,20 +4,48 @@ import java.util.NoSuchElementException;
 final class Check {
     private int wrong = 0;
     private int asked = 0;
+    private int sentences = 0;
+    private int askedBefore = 0;
+    private String about = "";
+
+    /** The document's words that the answers from here on are about. */
+    void sentence(String words) {
+        closeSentence();
+        sentences++;
+        askedBefore = asked;
+        about = words;
+    }
+
+    /** The same, of one side of what the words say. */
+    void sentence(String words, String side) {
+        sentence(words);
+        about = words + " - " + side;
+    }
+
+    private void closeSentence() {
+        if (sentences > 0 && asked == askedBefore) {
+            wrong++;
+            System.out.println("no answer was asked for: " + about);
+        }
+    }
+
+    private void tell(String call, String got, String want) {
+        wrong++;
+        System.out.println((about.isEmpty() ? "" : "[" + about + "] ")
+                + call + " answered " + got + ", due is " + want);
+    }
 
     void due(String call, int got, int want) {
         asked++;
         if (got != want) {
-            wrong++;
-            System.out.println(call + " answered " + got + ", due is " + want);
+            tell(call, "" + got, "" + want);
         }
     }
 
     void due(String call, boolean got, boolean want) {
         asked++;
         if (got != want) {
-            wrong++;
-            System.out.println(call + " answered " + got + ", due is " + want);
+            tell(call, "" + got, "" + want);
         }
     }
 
@@ -77,8 +105,22 @@ final class Check {
         due("engine(" + d + ", 4)", g.engine(d, 4), copied);
     }
 
+    /** read() by a device, and what fault() tells then. */
+    void dueRead(DmaGate g, int d, int address, int word, int fault) {
+        due("read(" + d + ", " + address + ")", g.read(d, address), word);
+        due("fault() behind read(" + d + ", " + address + ")", g.fault(), fault);
+    }
+
+    /** write() by a device, and what fault() tells then. */
+    void dueWrite(DmaGate g, int d, int address, int v, int fault) {
+        due("write(" + d + ", " + address + ", " + v + ")", g.write(d, address, v), fault == 0);
+        due("fault() behind write(" + d + ", " + address + ", " + v + ")", g.fault(), fault);
+    }
+
     void end(String name) {
-        System.out.println(name + ": " + asked + " answers, " + wrong + " not as due");
+        closeSentence();
+        System.out.println(name + ": " + (sentences > 0 ? sentences + " sentences, " : "")
+                + asked + " answers, " + wrong + " not as due");
         if (wrong != 0) {
             System.exit(1);
         }
