@@ -249,6 +249,14 @@ public final class EngineBoundsTest {
             c.due("peek(402)", g.peek(402), 0);
             c.due("peek(404)", g.peek(404), 0);
         }
+        DmaGate g = withRing(400, 2);
+        Gates.descriptor(g, 400, 100, 403, 1, 6);
+        g.poke(100, 96);
+        g.tail(5, 1);
+        c.due("step(5, 2)", g.step(5, 2), 2);
+        c.due("it copies over its own fourth word: peek(403)", g.peek(403), 96);
+        c.due("step(5, 1)", g.step(5, 1), 1);
+        c.due("the fourth word is the one that was read", g.peek(403), 7);
     }
 
     private static void headGoesRound() {
